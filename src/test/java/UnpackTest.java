@@ -56,6 +56,7 @@ public final class UnpackTest {
         breaks("no end", 2, Check.codes(4, 3, 1, 3, 0, 2));
         breaks("no end, full byte", 3, Check.codes(8, 4, 1, 4));
         breaks("the end is cut", 8, 0x01);
+        breaks("the end is cut, where only a 0 is missing", 2, Check.codes(1, 3, 2, 3, 3, 3, 0, 4, 5, 3));
         breaks("the last code is cut", 8, Check.codes(256, 9, 1, 7));
         breaks("row behind the first code is too new", 2, Check.codes(4, 3, 1, 3, 7, 3, 5, 4));
         breaks("a first code that is a row", 2, Check.codes(4, 3, 6, 3, 5, 3));
