@@ -1,3 +1,5 @@
+import java.util.Arrays;
+
 /** What the tests share: comparing answers, filling a box, and writing codes by hand. */
 final class Check {
     interface Call {
@@ -9,8 +11,14 @@ final class Check {
     static final String OUTSIDE = "throws.IndexOutOfBoundsException";
 
     private static int wrong = 0;
+    private static String sentence = "";
 
     private Check() {
+    }
+
+    /** The document's words that the next answers are about; a wrong answer is told with them. */
+    static void about(String words) {
+        sentence = "[" + words + "] ";
     }
 
     /** The answer as text, or throws.Name if the call throws just that. */
@@ -29,7 +37,7 @@ final class Check {
     static void same(String what, Object got, Object want) {
         if (!String.valueOf(got).equals(String.valueOf(want))) {
             wrong++;
-            System.out.println(what + ": answered " + got + ", due is " + want);
+            System.out.println(sentence + what + ": answered " + got + ", due is " + want);
         }
     }
 
@@ -55,6 +63,33 @@ final class Check {
             box.feed(intAt(bytes, at), intAt(bytes, at + 4), intAt(bytes, at + 8), intAt(bytes, at + 12), intAt(bytes, at + 16));
         }
         box.end(bytes.length);
+    }
+
+    /** A box with a full tape and a full result, all of it this index. */
+    static LzwBox fullBox(int m, int index) {
+        int[] all = new int[Model.MOST];
+        Arrays.fill(all, index);
+        LzwBox box = boxWith(Model.packed(all, m));
+        box.unpack(m);
+        box.again();
+        return box;
+    }
+
+    static String mask(LzwBox box, int m) {
+        box.mask(m);
+        return "done";
+    }
+
+    /**
+     * Tape and result. The tape shows only by packing it, which makes a new result: the box is not used behind this.
+     */
+    static String whole(LzwBox box) {
+        String made = "result " + text(result(box)) + ", tape of " + box.count(0);
+        if (box.count(0) == 0) {
+            return made;
+        }
+        box.pack(8);
+        return made + ", packed " + text(result(box));
     }
 
     static LzwBox boxWith(int... bytes) {
@@ -92,6 +127,7 @@ final class Check {
         return bits.bytes();
     }
 
+    /** Indices in an order that has no plan, always the same for the same seed. */
     static int[] indices(int length, int m, long seed) {
         int[] made = new int[length];
         long state = seed * 0x9E3779B97F4A7C15L + 1;

@@ -34,7 +34,7 @@ public final class ModelTest {
         if (roll < 60) {
             feed(at, draw, kind, box, model);
         } else if (roll < 66) {
-            both(at + " mask " + m, () -> masked(box, m), () -> model.mask(m));
+            both(at + " mask " + m, () -> Check.mask(box, m), () -> model.mask(m));
         } else if (roll < 74) {
             both(at + " pack " + m, () -> box.pack(m), () -> model.pack(m));
         } else if (roll < 79) {
@@ -60,11 +60,6 @@ public final class ModelTest {
                     : kind == 2 ? draw.nextInt() & 0x03030303 : 0;
         }
         both(at + " feed", () -> box.feed(five[0], five[1], five[2], five[3], five[4]), () -> model.feed(five));
-    }
-
-    private static String masked(LzwBox box, int m) {
-        box.mask(m);
-        return "done";
     }
 
     /** Codes that mostly may stand where they stand; then what they make is packed and unpacked again. */

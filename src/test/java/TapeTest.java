@@ -107,22 +107,17 @@ public final class TapeTest {
             int width = m;
             LzwBox box = Check.boxWith(255, 0, 0xA5, 0x80, 0x41);
             int k = kept[m - 2];
-            Check.due("mask " + m, () -> done(box, width), "done");
+            Check.due("mask " + m, () -> Check.mask(box, width), "done");
             Check.due("mask: length", () -> box.count(0), 5);
             Check.due("mask: result", () -> box.count(1), 0);
             Check.same("mask " + m + ": bytes", tape(box), Check.text(255 & k, 0, 0xA5 & k, 0x80 & k, 0x41 & k));
         }
         LzwBox box = Check.boxWith(255, 254);
         for (int m : new int[] {1, 9, 0, -1, 34, Integer.MIN_VALUE, Integer.MAX_VALUE}) {
-            Check.due("mask " + m, () -> done(box, m), Check.ILLEGAL);
+            Check.due("mask " + m, () -> Check.mask(box, m), Check.ILLEGAL);
         }
         Check.same("mask: unchanged", tape(box), "255 254");
-        Check.due("mask: empty tape", () -> done(new LzwBox(), 2), "done");
-    }
-
-    private static String done(LzwBox box, int m) {
-        box.mask(m);
-        return "done";
+        Check.due("mask: empty tape", () -> Check.mask(new LzwBox(), 2), "done");
     }
 
     private static void count() {
