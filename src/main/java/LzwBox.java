@@ -205,7 +205,8 @@ public final class LzwBox {
             made = 0;
             int allBits = 8 * packedLength;
             int place = 0;
-            while (place + numbering.bits <= allBits) {
+            // A code has at least one bit, so there are never more codes than bits.
+            for (int codes = 0; codes < allBits && place + numbering.bits <= allBits; codes++) {
                 int code = codeAt(packed, packedLength, place, numbering.bits);
                 place += numbering.bits;
                 if (code == numbering.ending()) {
